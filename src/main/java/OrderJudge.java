@@ -354,16 +354,12 @@ public final class OrderJudge {
             return turn(a, b, p) == 0 && dot(p, a, b) <= 0;
         }
 
-        // For d in neither direction, as the rays themselves are told apart before.
+        // For d in neither direction: those are told before. With b and c in one direction nothing is within.
         boolean strictlyInAngle(int a, int b, int c, int d) {
-            int opening = turn(a, b, c);
-            if (opening > 0) {
+            if (turn(a, b, c) >= 0) {
                 return turn(a, b, d) > 0 && turn(a, d, c) > 0;
             }
-            if (opening < 0) {
-                return turn(a, c, d) <= 0 || turn(a, d, b) <= 0;
-            }
-            return dot(a, b, c) < 0 && turn(a, b, d) > 0;
+            return turn(a, c, d) <= 0 || turn(a, d, b) <= 0;
         }
 
         // All four, as either way may be a single point.

@@ -62,6 +62,18 @@ public final class RowOrdersTest {
         CHECK.is("level with a corner below, outside", tip.polygon(4, 4), 0);
         CHECK.is("level with a corner below, on the other side", tip.polygon(4, 5), 0);
         CHECK.is("at the corner", tip.polygon(4, 6), 2);
+        OrderJudge diamond = Judges.with(5, 0, 0, 5, -5, 0, 0, -5, 0, 0, -9, 0, 9, 0, -1, 5, 1, -5);
+        int[] rows = {0, 1, 2, 3, 0, 1, 2, 3};
+        int[] inDiamond = {2, 2, 2, 2, 1, 0, 0, 0, 0};
+        for (int turned = 0; turned < 4; turned++) {
+            Judges.row(diamond, rows[turned], rows[turned + 1], rows[turned + 2], rows[turned + 3]);
+            for (int p = 0; p < inDiamond.length; p++) {
+                CHECK.is("level with corners, " + p, diamond.polygon(4, p), inDiamond[p]);
+                CHECK.is("level with corners, " + p, diamond.winding(4, p), inDiamond[p] == 2 ? 100 : inDiamond[p]);
+            }
+            Judges.row(diamond, rows[turned + 3], rows[turned + 2], rows[turned + 1], rows[turned]);
+            CHECK.is("level with corners, to the right", diamond.winding(4, 4), -1);
+        }
     }
 
     private static void windings() {
@@ -118,7 +130,7 @@ public final class RowOrdersTest {
     }
 
     private static void sortedRound() {
-        OrderJudge judge = Judges.with(2, 1, 4, 1, 3, 1, 4, 2, 2, 5, 0, 3, -1, 1, 1, 0, 2, -4, 3, 0, 2, 1, 3, 1);
+        OrderJudge judge = Judges.with(2, 1, 4, 1, 3, 1, 4, 2, 2, 5, 0, 3, 1, 1, 1, 0, 2, -4, 3, 0, 2, 1, 3, 1);
         //            by direction: 0 centre, 2 11 1 right, 3 4 5 6 upwards and left, 7 8 9 below
         Judges.row(judge, 9, 8, 7, 6, 5, 4, 3, 1, 2, 10, 0, 11);
         int[] due = {9, 10, 8, 11, 7, 6, 5, 4, 3, 2, 1, 0};
@@ -191,6 +203,7 @@ public final class RowOrdersTest {
         judge.of(0, OrderJudge.NONE);
         CHECK.is("too few are BAD before NOT", judge.convex(2), OrderJudge.BAD);
         CHECK.is("BAD i is told before NOT", judge.order(2, 2), OrderJudge.BAD);
+        expectAll("the first has NONE", judge, 3, 3, 0, OrderJudge.NOT);
     }
 
     private static void expectAll(String what, OrderJudge judge, int n, int p, int i, int due) {
