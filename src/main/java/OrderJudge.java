@@ -31,9 +31,7 @@ public final class OrderJudge {
             return FULL;
         }
         int factor = SCALE / (int) down;
-        int number = plane.add((int) x * factor, (int) y * factor);
-        quick.widen(number);
-        return number;
+        return plane.add((int) x * factor, (int) y * factor);
     }
 
     // ---- the row
@@ -423,15 +421,10 @@ public final class OrderJudge {
     private static final class Filter {
         private final Plane plane;
         boolean on = true;
-        float reach;
         int clears, unclears, zeros;
 
         Filter(Plane plane) {
             this.plane = plane;
-        }
-
-        void widen(int p) {
-            reach = larger(reach, larger(unsigned(x(p)), unsigned(y(p))));
         }
 
         void tally(boolean clear, int sign) {
@@ -448,6 +441,7 @@ public final class OrderJudge {
         // 0: not decided.
         int clearTurn(int a, int b, int c) {
             float value = (x(b) - x(a)) * (y(c) - y(a)) - (y(b) - y(a)) * (x(c) - x(a));
+            float reach = reachOfThree(a, b, c);
             return clearSign(value, reach * reach * 0.000003814697265625f);
         }
 
@@ -458,7 +452,17 @@ public final class OrderJudge {
             float xc = x(c) - x(d), yc = y(c) - y(d);
             float sa = xa * xa + ya * ya, sb = xb * xb + yb * yb, sc = xc * xc + yc * yc;
             float value = (sa * (xb * yc - yb * xc) + sb * (xc * ya - yc * xa)) + sc * (xa * yb - ya * xb);
+            float reach = larger(reachOfThree(a, b, c), reach(d));
             return clearSign(value, (reach * reach) * (reach * reach) * 0.000244140625f);
+        }
+
+        // SIZE, of the POINTS that the call tells and of no other: how far off the rest lie rounds nothing here.
+        private float reachOfThree(int a, int b, int c) {
+            return larger(larger(reach(a), reach(b)), reach(c));
+        }
+
+        private float reach(int p) {
+            return larger(unsigned(x(p)), unsigned(y(p)));
         }
 
         private static int clearSign(float value, float doubt) {

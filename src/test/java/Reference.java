@@ -109,7 +109,7 @@ final class Reference {
     private boolean filterTurn(int a, int b, int c) {
         float left = (fx(b) - fx(a)) * (fy(c) - fy(a));
         float right = (fy(b) - fy(a)) * (fx(c) - fx(a));
-        return Math.abs(left - right) > reach() * reach() * 0.000003814697265625f;
+        return Math.abs(left - right) > reach(a, b, c) * reach(a, b, c) * 0.000003814697265625f;
     }
 
     private boolean filterRing(int a, int b, int c, int d) {
@@ -122,13 +122,13 @@ final class Reference {
             float s = x[i] * x[i] + y[i] * y[i];
             term[i] = s * (x[j] * y[k] - y[j] * x[k]);
         }
-        float square = reach() * reach();
+        float square = reach(a, b, c, d) * reach(a, b, c, d);
         return Math.abs((term[0] + term[1]) + term[2]) > square * square * 0.000244140625f;
     }
 
-    private float reach() {
+    private float reach(int... told) {
         float most = 0;
-        for (int p = 0; p < points.size(); p++) {
+        for (int p : told) {
             most = Math.max(most, Math.max(Math.abs(fx(p)), Math.abs(fy(p))));
         }
         return most;

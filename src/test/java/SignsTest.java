@@ -7,10 +7,11 @@ public final class SignsTest {
         circles();
         filterSwitch();
         decidedCounts();
-        decidedByAllPoints();
+        decidedByPointsTold();
         nearlyInLine();
         nearlyOnCircle();
-        edgeOfDoubt();
+        edgeOfDoubtOfSide();
+        edgeOfDoubtOfCircle();
         CHECK.end();
     }
 
@@ -89,19 +90,26 @@ public final class SignsTest {
         }
     }
 
-    // SIZE is that of all POINTS, so one far away makes what was clear doubtful.
-    private static void decidedByAllPoints() {
-        OrderJudge judge = Judges.with(0, 0, 1, 0, 0, 1, 1, 1);
-        judge.side(0, 1, 2);
-        judge.circle(0, 1, 2, 0);
-        expectDecided("near", judge, 1, 1, 1);
-        judge.point(0, -800, 1);
-        CHECK.is("doubtful, but told", judge.side(0, 1, 2), 1);
-        expectDecided("with one far away", judge, 1, 2, 1);
-        judge.point(801, 0, 1);
-        judge.point(-800, 0, 1);
-        CHECK.is("clear though far", judge.side(0, 4, 5), -1);
-        expectDecided("wide ones", judge, 2, 2, 1);
+    // SIZE is that of the POINTS told in the call: others, however far away, leave clear what is clear.
+    private static void decidedByPointsTold() {
+        OrderJudge judge = Judges.with(800, 800, 0, 0, 4, 0, 0, 4, 1, 1, -800, 5);
+        CHECK.is("near ones", judge.side(1, 2, 3), 1);
+        CHECK.is("a near circle", judge.circle(1, 2, 3, 4), 1);
+        expectDecided("near, with others far away", judge, 2, 0, 0);
+        judge.point(1, 1, 12);
+        judge.point(-1, 0, 12);
+        judge.point(0, -1, 12);
+        CHECK.is("the smallest of all", judge.side(1, 7, 8), 1);
+        CHECK.is("a smallest circle", judge.circle(1, 7, 8, 6), -1);
+        expectDecided("what is small is clear among the small", judge, 4, 0, 0);
+        Judges.row(judge, 0, 5);
+        judge.line(0, 5);
+        judge.side(2, 1, 3);
+        expectDecided("THE ROW and LINES have no part in it", judge, 5, 0, 0);
+        OrderJudge far = Judges.with(800, 800, 799, 800, 800, 799, 799, 799, 798, 799);
+        CHECK.is("far ones", far.side(0, 1, 2), 1);
+        CHECK.is("a far circle", far.circle(0, 1, 2, 4), -1);
+        expectDecided("the same ways, told far away, are doubtful", far, 0, 2, 0);
     }
 
     // TURN is 1/6 here, and the doubt 800 * 800 / 2 to the 18, some 2.4.
@@ -130,26 +138,49 @@ public final class SignsTest {
         CHECK.is("two told 0", judge.decided(2), 2);
     }
 
-    // What is of just the doubt is not more than it, so it is not decided.
-    private static void edgeOfDoubt() {
-        // SIZE 512: the doubt of TURN is 1.
-        OrderJudge judge = Judges.with(0, 0, 1, 0, 0, 1, 0, 2, 512, 0);
-        CHECK.is("TURN of 1", judge.side(0, 1, 2), 1);
-        CHECK.is("TURN of -1", judge.side(1, 0, 2), -1);
-        expectDecided("of just the doubt", judge, 0, 2, 0);
-        CHECK.is("TURN of 2", judge.side(0, 1, 3), 1);
-        CHECK.is("TURN of -2", judge.side(1, 0, 3), -1);
-        expectDecided("more than the doubt", judge, 2, 2, 0);
-        // SIZE 16: the doubt of RING is 16; of this circle RING is 8 (4 - x x - y y).
-        OrderJudge ring = Judges.with(2, 0, 0, 2, -2, 0, 16, 0, 0, -16, 1, 1, 2, 1, 0, 1, 3, 0);
-        CHECK.is("RING of 16, within", ring.circle(0, 1, 2, 5), 1);
-        CHECK.is("RING of -16, gone round to the right", ring.circle(2, 1, 0, 5), 1);
-        CHECK.is("RING of -8, outside", ring.circle(0, 1, 2, 6), -1);
-        expectDecided("up to the doubt of RING", ring, 0, 3, 0);
-        CHECK.is("RING of 24, within", ring.circle(0, 1, 2, 7), 1);
-        CHECK.is("RING of -40, outside", ring.circle(0, 1, 2, 8), -1);
-        CHECK.is("RING of 40, gone round to the right", ring.circle(2, 1, 0, 8), -1);
-        expectDecided("more than the doubt of RING", ring, 3, 3, 0);
+    // With SIZE 512 the doubt of TURN is 1, and what is just 1 is not more than it. Each corner in turn is the only
+    // one that has SIZE, to either side, in X or in Y.
+    private static void edgeOfDoubtOfSide() {
+        long[][] ways = {{1, 0}, {-1, 0}, {0, 1}, {0, -1}};
+        for (long[] way : ways) {
+            long x = way[0], y = way[1];
+            OrderJudge judge = Judges.with(512 * x, 512 * y, 511 * x, 511 * y, 511 * x - y, 511 * y + x,
+                510 * x, 510 * y, 510 * x - y, 510 * y + x, 0, 0, 800, -800);
+            for (int[] told : new int[][] {{0, 1, 2}, {1, 2, 0}, {2, 0, 1}}) {
+                CHECK.is("TURN of -1", judge.side(told[0], told[1], told[2]), -1);
+                CHECK.is("TURN of 1", judge.side(told[1], told[0], told[2]), 1);
+            }
+            expectDecided("of just the doubt", judge, 0, 6, 0);
+            for (int[] told : new int[][] {{1, 3, 4}, {3, 4, 1}, {4, 1, 3}}) {
+                CHECK.is("TURN of -1, less far", judge.side(told[0], told[1], told[2]), -1);
+                CHECK.is("TURN of 1, less far", judge.side(told[1], told[0], told[2]), 1);
+            }
+            expectDecided("more than the doubt of 511", judge, 6, 6, 0);
+            CHECK.is("TURN of -2", judge.side(0, 3, 2), -1);
+            expectDecided("twice the doubt", judge, 7, 6, 0);
+        }
+    }
+
+    // With SIZE 16 the doubt of RING is 16, as is RING of these four but for the sign, wherever they are moved.
+    private static void edgeOfDoubtOfCircle() {
+        long[][] moves = {{14, 0}, {-14, 0}, {0, 15}, {0, -16}, {14, 15}};
+        for (long[] move : moves) {
+            long x = move[0], y = move[1];
+            expectRing("of just the doubt", 0, x, y);
+            expectRing("more than the doubt, nearer", 6, x - Long.signum(x), y - Long.signum(y));
+        }
+        OrderJudge within = Judges.with(2, 0, 0, 2, -2, 0, 1, 1, 16, 0);
+        CHECK.is("RING of 16, within", within.circle(0, 1, 2, 3), 1);
+        expectDecided("RING of 16 is more than the doubt of 2", within, 1, 0, 0);
+    }
+
+    private static void expectRing(String what, int clear, long x, long y) {
+        OrderJudge judge = Judges.with(x, y, x + 2, y, x, y + 1, x - 2, y, 800, 800, 0, 0);
+        int[][] rounds = {{0, 1, 2}, {1, 2, 0}, {2, 0, 1}, {2, 1, 0}, {1, 0, 2}, {0, 2, 1}};
+        for (int[] told : rounds) {
+            CHECK.is(what + ", outside", judge.circle(told[0], told[1], told[2], 3), -1);
+        }
+        expectDecided(what + ", moved by " + x + ", " + y, judge, clear, 6 - clear, 0);
     }
 
     private static void expectDecided(String what, OrderJudge judge, int clear, int unclear, int zero) {
