@@ -456,7 +456,7 @@ public final class OrderJudge {
             return clearSign(value, (reach * reach) * (reach * reach) * 0.000244140625f);
         }
 
-        // SIZE, of the POINTS that the call tells and of no other: how far off the rest lie rounds nothing here.
+        // SIZE is of the POINTS that the call tells alone, as no others are rounded in it.
         private float reachOfThree(int a, int b, int c) {
             return larger(larger(reach(a), reach(b)), reach(c));
         }

@@ -169,6 +169,12 @@ public final class SignsTest {
             expectRing("of just the doubt", 0, x, y);
             expectRing("more than the doubt, nearer", 6, x - Long.signum(x), y - Long.signum(y));
         }
+        OrderJudge hair = new OrderJudge();
+        for (long[] twelfths : new long[][] {{167, 0}, {191, 0}, {167, 12}, {143, 0}}) {
+            hair.point(twelfths[0], twelfths[1], 12);
+        }
+        CHECK.is("a twelfth nearer", hair.circle(0, 1, 2, 3), -1);
+        expectDecided("a hair more than the doubt", hair, 1, 0, 0);
         OrderJudge within = Judges.with(2, 0, 0, 2, -2, 0, 1, 1, 16, 0);
         CHECK.is("RING of 16, within", within.circle(0, 1, 2, 3), 1);
         expectDecided("RING of 16 is more than the doubt of 2", within, 1, 0, 0);
