@@ -106,8 +106,9 @@ public final class FewTest {
     }
 
     private static void separatedOnCircle() {
-        OrderJudge judge = Judges.with(5, 0, 3, 4, 0, 5, -3, 4, -5, 0, 0, -5);
         for (int a = 0; a < 6; a++) {
+            // One for all would be used for more than 512 calls.
+            OrderJudge judge = Judges.with(5, 0, 3, 4, 0, 5, -3, 4, -5, 0, 0, -5);
             for (int b = 0; b < 6; b++) {
                 for (int c = 0; c < 6; c++) {
                     for (int d = 0; d < 6; d++) {
@@ -119,8 +120,8 @@ public final class FewTest {
     }
 
     private static void separatedOnLine() {
-        OrderJudge judge = Judges.with(-6, 2, -3, 3, 0, 4, 3, 5, 6, 6);
         for (int a = 0; a < 5; a++) {
+            OrderJudge judge = Judges.with(-6, 2, -3, 3, 0, 4, 3, 5, 6, 6);
             for (int b = 0; b < 5; b++) {
                 for (int c = 0; c < 5; c++) {
                     for (int d = 0; d < 5; d++) {

@@ -15,6 +15,18 @@ final class Judges {
         return judge;
     }
 
+    /** Points by x, y, down, x, y, down and so on. */
+    static OrderJudge withParts(long... numbers) {
+        OrderJudge judge = new OrderJudge();
+        for (int i = 0; i + 2 < numbers.length; i += 3) {
+            int number = judge.point(numbers[i], numbers[i + 1], numbers[i + 2]);
+            if (number != i / 3) {
+                throw new IllegalStateException("the point was refused");
+            }
+        }
+        return judge;
+    }
+
     /** The row gets just these POINTS (or NONE). */
     static void row(OrderJudge judge, int... points) {
         judge.size(points.length);
