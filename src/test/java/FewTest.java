@@ -18,6 +18,7 @@ public final class FewTest {
     }
 
     private static void betweens() {
+        CHECK.sentence("2: b is EQUAL to a or c; 1: it lies on the line between them; 0: neither");
         OrderJudge judge = Judges.with(0, 0, 6, 3, 2, 1, 8, 4, 2, 2, 0, 0);
         CHECK.is("between", judge.between(0, 2, 1), 1);
         CHECK.is("between, backwards", judge.between(1, 2, 0), 1);
@@ -36,6 +37,7 @@ public final class FewTest {
     }
 
     private static void narrowAngles() {
+        CHECK.sentence("The angle at a, from the direction of b to that of c, going round to the left (less than half a turn)");
         OrderJudge judge = rose();
         int[] due = {2, 2, 2, 0, 0, 1, 0, 0, 0, 2, 2};
         for (int d = 0; d < due.length; d++) {
@@ -44,6 +46,7 @@ public final class FewTest {
     }
 
     private static void wideAngles() {
+        CHECK.sentence("The angle at a, from the direction of b to that of c, going round to the left (more than half a turn)");
         OrderJudge judge = rose();
         int[] due = {2, 2, 2, 1, 1, 0, 1, 1, 1, 2, 2};
         for (int d = 0; d < due.length; d++) {
@@ -52,6 +55,7 @@ public final class FewTest {
     }
 
     private static void flatAngles() {
+        CHECK.sentence("going round to the left (half a turn; b and c in one direction: that alone) .. NOT: b or c is EQUAL to a");
         OrderJudge judge = rose();
         int[] half = {2, 2, 1, 2, 0, 1, 1, 0, 0, 2, 2};
         int[] alone = {2, 2, 0, 0, 0, 0, 0, 0, 0, 2, 2};
@@ -66,6 +70,7 @@ public final class FewTest {
     }
 
     private static void crossings() {
+        CHECK.sentence("0: they have no point in common; 1: one, that is an end of neither; 2: one, that is an end");
         OrderJudge judge = Judges.with(0, 0, 10, 10, 0, 10, 10, 0, 5, 5, 20, 0, 0, 20, 20, 20, 5, 0);
         CHECK.is("cross", judge.cross(0, 1, 2, 3), 1);
         CHECK.is("an end of the second on the first", judge.cross(0, 1, 4, 3), 2);
@@ -78,6 +83,7 @@ public final class FewTest {
     }
 
     private static void crossingsInLine() {
+        CHECK.sentence("2: one, that is an end; 3: more (in one line)");
         OrderJudge judge = Judges.with(0, 0, 2, 4, 4, 8, 6, 12, 5, 0, 5, 2, 5, 4, 5, 6);
         for (int base = 0; base < 8; base += 4) {
             int p = base, q = base + 1, r = base + 2, s = base + 3;
@@ -94,6 +100,7 @@ public final class FewTest {
     }
 
     private static void crossingsOfSinglePoints() {
+        CHECK.sentence("The ways from a to b, and from c to d, straight, ends with them (a way of one point)");
         OrderJudge judge = Judges.with(0, 0, 4, 4, 2, 2, 2, 3, 6, 6, 2, 2);
         CHECK.is("a single point within", judge.cross(2, 2, 0, 1), 2);
         CHECK.is("a single point of EQUAL ones within", judge.cross(0, 1, 2, 5), 2);
@@ -106,6 +113,7 @@ public final class FewTest {
     }
 
     private static void separatedOnCircle() {
+        CHECK.sentence("Whether a and b separate c and d on their circle");
         for (int a = 0; a < 6; a++) {
             // One for all would be used for more than 512 calls.
             OrderJudge judge = Judges.with(5, 0, 3, 4, 0, 5, -3, 4, -5, 0, 0, -5);
@@ -120,6 +128,7 @@ public final class FewTest {
     }
 
     private static void separatedOnLine() {
+        CHECK.sentence("or line (that closes far away)");
         for (int a = 0; a < 5; a++) {
             OrderJudge judge = Judges.with(-6, 2, -3, 3, 0, 4, 3, 5, 6, 6);
             for (int b = 0; b < 5; b++) {
@@ -145,6 +154,7 @@ public final class FewTest {
     }
 
     private static void separatedRefusals() {
+        CHECK.sentence("NOT: two are EQUAL, or they are on no circle and no line");
         OrderJudge judge = Judges.with(5, 0, 0, 5, -5, 0, 0, -4, 0, 0, 5, 0, 8, 0);
         CHECK.is("on no circle", judge.separated(0, 1, 2, 3), OrderJudge.NOT);
         CHECK.is("EQUAL ones on the circle", judge.separated(0, 1, 2, 5), OrderJudge.NOT);
@@ -158,6 +168,7 @@ public final class FewTest {
     }
 
     private static void noSuchPoints() {
+        CHECK.sentence("BAD: no such POINT");
         OrderJudge judge = Judges.with(0, 0, 1, 0, 0, 1, 5, 7);
         for (int wrong : new int[] {4, -1, -2, 60, Integer.MAX_VALUE, Integer.MIN_VALUE}) {
             for (int at = 0; at < 4; at++) {
