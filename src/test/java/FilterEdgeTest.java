@@ -46,6 +46,11 @@ public final class FilterEdgeTest {
         {-137, 117, 4, -546, -173, 12, -128, -140, 4, 29, 75, 2, 1, 0},
         {-787, -170, 6, 67, -340, 2, -719, 68, 6, 214, -234, 2, 1, 0},
         {497, 51, 6, 334, -82, 4, -46, 34, 2, 13, -176, 3, 1, 1},
+        // Just the doubt itself, of which SIZE * SIZE * SIZE * SIZE would be a float less.
+        {80, -5, 12, 80, 3, 12, 66, 11, 12, 75, 13, 12, -1, 0},
+        {80, 8, 12, 57, 1, 12, 66, 0, 12, 65, 3, 12, 1, 0},
+        {60, 2, 12, 63, 3, 12, 61, -5, 12, 80, 12, 12, -1, 0},
+        {76, -7, 12, 80, -9, 12, 72, 12, 12, 80, 11, 12, 1, 0},
     };
 
     // Four POINTS in quarters, where SIZE is 16 and its doubt 16, RING, the latter sign's sum in 1/256.
