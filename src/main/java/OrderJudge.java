@@ -163,7 +163,7 @@ public final class OrderJudge {
         return sideOfC != plane.turn(a, b, d) ? 1 : 0;
     }
 
-    // ---- orders of the row
+    // ---- orders of the row (n is 1 and more, up to how many PLACES there are)
 
     public int convex(int n) {
         if (n < FEWEST_CONVEX) {

@@ -1,11 +1,17 @@
+import java.io.IOException;
 import java.lang.reflect.Constructor;
 import java.lang.reflect.Field;
 import java.lang.reflect.Member;
 import java.lang.reflect.Method;
 import java.lang.reflect.Modifier;
+import java.nio.charset.StandardCharsets;
+import java.nio.file.Files;
+import java.nio.file.Path;
 import java.util.Arrays;
 import java.util.Set;
 import java.util.TreeSet;
+import java.util.regex.Matcher;
+import java.util.regex.Pattern;
 import java.util.stream.Collectors;
 
 /** The public face: just the constants, the constructor and the methods of the document. */
@@ -36,12 +42,16 @@ public final class FaceTest {
         "int count(int)",
     };
 
-    public static void main(String[] args) {
+    public static void main(String[] args) throws IOException {
         CHECK.holds("public and final", OrderJudge.class.getModifiers() == (Modifier.PUBLIC | Modifier.FINAL));
         constants();
         constructor();
         methods();
         hiddenNames();
+        String source = Files.readString(Path.of("src/main/java/OrderJudge.java"), StandardCharsets.UTF_8);
+        String document = Document.text();
+        wordByWord(source, document);
+        headings(source, document);
         CHECK.end();
     }
 
@@ -89,6 +99,36 @@ public final class FaceTest {
                 CHECK.holds(inner.getName() + "." + method.getName(), !face.contains(method.getName()));
             }
         }
+    }
+
+    // Names of parameters too, which reflection does not see; and in the document's order.
+    private static void wordByWord(String source, String document) {
+        Matcher face = Pattern.compile("(?s)```java\\n(.*?)```").matcher(document);
+        CHECK.holds("the document has a face", face.find() || !Document.atHand());
+        int from = 0;
+        for (String line : document.isEmpty() ? new String[0] : face.group(1).split("\n")) {
+            String member = line.replaceAll("( \\{|;|\\})$", "").strip();
+            int found = source.indexOf(member, from);
+            CHECK.holds("the class has, in this order: " + member, found >= 0);
+            CHECK.holds("and nothing behind it: " + member, member.isEmpty() || found < 0 || endsAt(source, found + member.length()));
+            from = Math.max(from, found);
+        }
+    }
+
+    private static boolean endsAt(String source, int end) {
+        return source.startsWith(";\n", end) || source.startsWith(" {\n", end);
+    }
+
+    // "Ahead of the calls .. the interface says": no other public member stands between the words and the first of them.
+    private static void headings(String source, String document) {
+        Matcher said = Pattern.compile("Ahead of the calls `(\\w+)`.* the interface says: (---- .*)\\.\n").matcher(document);
+        int found = 0;
+        while (said.find()) {
+            found++;
+            String due = "(?s).*\n    // " + Pattern.quote(said.group(2)) + "\n\n    public \\w+ " + said.group(1) + "\\(.*";
+            CHECK.holds("ahead of " + said.group(1) + ": " + said.group(2), source.matches(due));
+        }
+        CHECK.is("headings", found, Document.atHand() ? 5 : 0);
     }
 
     private static boolean isShown(Member member) {

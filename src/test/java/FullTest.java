@@ -1,4 +1,4 @@
-/** Full: the last POINT, PLACE and LINE that go in, the first ones that don't, and the last call. */
+/** Full: the last POINT, PLACE and LINE that go in, and the first ones that don't. */
 public final class FullTest {
     private static final Check CHECK = new Check("FullTest");
     private static final int BAD = OrderJudge.BAD, FULL = OrderJudge.FULL, NOT = OrderJudge.NOT;
@@ -22,7 +22,6 @@ public final class FullTest {
         linesInParallel();
         linesInGrid();
         oneLineTwelveTimes();
-        lastCall();
         CHECK.end();
     }
 
@@ -344,15 +343,5 @@ public final class FullTest {
         for (int k = 0; k < due.length; k++) {
             CHECK.is("the first " + n + ", what = " + k, judge.lines(n, k), due[k]);
         }
-    }
-
-    private static void lastCall() {
-        CHECK.sentence("An object is used for at most 512 calls after it has been made");
-        OrderJudge judge = Judges.with(0, 0, 4, 0, 0, 4, 8, 0);
-        for (int call = 5; call <= 510; call++) {
-            CHECK.is("call " + call, judge.side(0, 1, call % 2 == 0 ? 2 : 3), call % 2 == 0 ? 1 : 0);
-        }
-        CHECK.is("call 511", judge.decided(0), 253);
-        CHECK.is("call 512", judge.decided(2), 253);
     }
 }
