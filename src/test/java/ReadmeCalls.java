@@ -12,8 +12,9 @@ public final class ReadmeCalls {
     static final String CLASS = "ReadmeShown";
 
     private static final Pattern NEW = Pattern.compile("OrderJudge \\w+ = new OrderJudge\\(\\);");
+    private static final Pattern LOOP = Pattern.compile("for \\(int k = \\d+; k < \\d+; k\\+\\+\\) \\{|\\}");
     private static final Pattern CALL = Pattern.compile("(?:(int|long) (\\w+) = )?(\\w+\\.\\w+\\([^;]*\\)); *// (.*)");
-    private static final Pattern ANSWER = Pattern.compile("(-?\\d+|NONE|BAD|FULL|NOT)(:.*)?");
+    private static final Pattern ANSWER = Pattern.compile("(-?\\d+|k|NONE|BAD|FULL|NOT)(:.*)?");
     private static final Pattern THROWN = Pattern.compile("throws (\\w+)(:.*)?");
 
     private ReadmeCalls() {
@@ -51,12 +52,12 @@ public final class ReadmeCalls {
 
     /** A line that tells no answer is refused: what a README shows and does not tell could not be tested. */
     static String statement(String line) {
-        if (NEW.matcher(line).matches()) {
+        if (NEW.matcher(line).matches() || LOOP.matcher(line).matches()) {
             return line;
         }
         Matcher call = CALL.matcher(line);
         if (!call.matches()) {
-            throw new IllegalArgumentException("neither a new object nor a call with its answer: " + line);
+            throw new IllegalArgumentException("no new object, no loop, and no call with its answer: " + line);
         }
         Matcher thrown = THROWN.matcher(call.group(4));
         if (thrown.matches() && call.group(1) == null) {
@@ -78,6 +79,6 @@ public final class ReadmeCalls {
     }
 
     private static String constant(String told) {
-        return Character.isLetter(told.charAt(0)) ? "OrderJudge." + told : told;
+        return Character.isUpperCase(told.charAt(0)) ? "OrderJudge." + told : told;
     }
 }

@@ -15,7 +15,6 @@ import java.util.stream.Stream;
 /** README.md shows every call and tells every test; what it shows is made into a test rightly. */
 public final class ReadmeTest {
     private static final Check CHECK = new Check("ReadmeTest");
-    private static final int MOST_CALLS = 512;
 
     public static void main(String[] args) throws IOException {
         String readme = Files.readString(Path.of("README.md"), StandardCharsets.UTF_8);
@@ -43,11 +42,10 @@ public final class ReadmeTest {
             }
         }
         CHECK.holds("calls shown " + names + ", due " + face, names.equals(face));
-        CHECK.holds("one object, for 512 calls at most", shown.size() - 1 <= MOST_CALLS);
     }
 
     private static void everyRefusalIsShown(List<String> shown) {
-        String[] told = {"BAD", "NOT", "throws NegativeArraySizeException", "throws ArrayIndexOutOfBoundsException",
+        String[] told = {"BAD", "FULL", "NOT", "throws NegativeArraySizeException", "throws ArrayIndexOutOfBoundsException",
             "throws NullPointerException", "throws ArithmeticException"};
         for (String answer : told) {
             CHECK.holds("shows " + answer, shown.stream().anyMatch(line -> line.contains("// " + answer)));
@@ -82,6 +80,8 @@ public final class ReadmeTest {
         become("int a = judge.point(0, 0, 1); // 0", "int a = judge.point(0, 0, 1); check.is(\"judge.point(0, 0, 1)\", a, 0);");
         become("judge.size(-1); // throws NegativeArraySizeException: why",
             "check.raises(\"judge.size(-1)\", NegativeArraySizeException.class, () -> judge.size(-1));");
+        become("for (int k = 4; k < 12; k++) {", "for (int k = 4; k < 12; k++) {");
+        become("judge.line(a, b); // k: words", "check.is(\"judge.line(a, b)\", judge.line(a, b), k);");
         refuse("judge.count(0);");
         refuse("judge.count(0); // the points");
         refuse("judge.count(0); // 3 points");
